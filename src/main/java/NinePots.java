@@ -552,7 +552,6 @@ public final class NinePots {
             rules.kinds[number] = kind;
             rules.wants[number] = wants;
             rules.takes[number] = takes;
-            // An IMAGE with fewer BUYERS leaves older numbers behind.
             stand.has[number] = 0;
             rules.buyers = number + 1;
             return number;
@@ -628,6 +627,7 @@ public final class NinePots {
         int kept;
         int purse;
         int pains;
+        /** Of the latest YEAR; each YEAR writes them anew, so that no copy needs them. */
         int sold;
         int stands;
         int climb;
@@ -645,9 +645,6 @@ public final class NinePots {
             kept = other.kept;
             purse = other.purse;
             pains = other.pains;
-            sold = other.sold;
-            stands = other.stands;
-            climb = other.climb;
         }
 
         int setting(int what) {
@@ -789,8 +786,8 @@ public final class NinePots {
             int left = onSale;
             int paid = 0;
             for (int i = 0; i < rules.buyers; i++) {
-                if ((come >>> i & 1) == 1) {
-                    int bought = buys(i, step, left);
+                int bought = (come >>> i & 1) == 1 ? buys(i, step, left) : 0;
+                if (bought > 0) {
                     left -= bought;
                     paid += bought * due(i, step);
                     has[i] = Math.min(HAS_MOST, has[i] + bought);
@@ -901,6 +898,9 @@ public final class NinePots {
         }
 
         int leastKeptToRaise(Stand stand, int n) {
+            if (stand.last >= STEPS - 1) {
+                return -1;
+            }
             for (int kept = 0; kept <= KEPT_MOST; kept++) {
                 bestEnds(stand, kept, n, false);
                 if (bestRow[0] > stand.last) {
